@@ -283,9 +283,7 @@ public final class FrameSharer {
     }
 
     private void clearRow(int row) {
-        for (int space = 0; space < SPACES; space++) {
-            spaceInRow[spaceIndex(row, space)] = false;
-        }
+        // Which spaces a dropped picture had need not be cleared: the next take writes that anew.
         for (int i = 0; i < ROW_PAGES; i++) {
             standIn(row * ROW_PAGES + i, NONE);
         }

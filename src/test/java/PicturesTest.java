@@ -19,6 +19,7 @@ public final class PicturesTest {
         missingPictures();
         changedCountsPages();
         changedWithSpaces();
+        firstAndLastPage();
         countOfAll();
         Checks.end("PicturesTest");
     }
@@ -237,6 +238,26 @@ public final class PicturesTest {
         Checks.due("the fork is gone", x.changed(0) * 10 + x.changed(1), 12);
         x.back(0);
         Checks.due("the later picture after back", x.changed(1), 3);
+    }
+
+    private static void firstAndLastPage() {
+        for (int corner = 0; corner < 2; corner++) {
+            int space = corner * 5;
+            int page = corner * 7;
+            FrameSharer x = Checks.keeper(4, 6);
+            x.map(space, page, 3);
+            x.take();
+            Checks.due("pages, corner " + corner, x.count(4), 1);
+            x.close(space);
+            Checks.due("changed, corner " + corner, x.changed(0), 1);
+            Checks.due("frames, corner " + corner, x.count(0), 1);
+            Checks.due("back, corner " + corner, x.back(0), 6);
+            Checks.due("isThere, corner " + corner, x.isThere(space), true);
+            Checks.due("read, corner " + corner, x.read(space, page * 16), 3);
+            x.unmap(space, page);
+            Checks.due("drop, corner " + corner, x.drop(0), 1);
+            Checks.due("no frame, corner " + corner, x.count(0), 0);
+        }
     }
 
     private static void countOfAll() {

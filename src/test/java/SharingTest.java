@@ -12,7 +12,7 @@ public final class SharingTest {
         lendNeedsNoFrame();
         joinMovesAllHolders();
         joinMovesPictures();
-        joinKeepsTheFirstFrame();
+        joinBothWays();
         joinOfDifferentCells();
         joinThatIsNone();
         wrongPagesAndSpaces();
@@ -107,8 +107,8 @@ public final class SharingTest {
         Checks.due("frames", x.count(0), 2);
     }
 
-    /** Which of both frames stays shows in a picture that knows the one of them alone. */
-    private static void joinKeepsTheFirstFrame() {
+    /** A picture that knows one of both frames sees the same, whichever way they are joined. */
+    private static void joinBothWays() {
         FrameSharer x = Checks.keeper(4, 2);
         x.map(0, 0, 5);
         x.take();
