@@ -1,14 +1,26 @@
-import java.util.NoSuchElementException;
+import java.util.List;
+import java.util.function.Function;
+import java.util.function.Supplier;
 
-/** What every test here shares: due answers, due exceptions, and a text of all that can be seen. */
+/** What every test here shares: tests of one sentence each, due answers, and refused calls. */
 final class Checks {
-    static final Class<NoSuchElementException> MISSING = NoSuchElementException.class;
-    static final Class<IndexOutOfBoundsException> OUTSIDE = IndexOutOfBoundsException.class;
-    static final Class<IllegalStateException> NO_FRAME = IllegalStateException.class;
+    static final String MISSING = "throws.NoSuchElementException";
+    static final String OUTSIDE = "throws.IndexOutOfBoundsException";
+    static final String NO_FRAME = "throws.IllegalStateException";
 
-    /** No space, page, picture or address is one of these. */
-    static final int[] FAR = {-1, Integer.MIN_VALUE, Integer.MAX_VALUE, 1 << 28, -128};
+    /**
+     * No space, page, picture, address or kind of count is one of these; some would fall back into a
+     * range if a product wrapped around or a number were cut to a byte, a short or its last bits.
+     */
+    static final int[] FAR = {
+        -128, -256, -65536, Integer.MIN_VALUE, Integer.MIN_VALUE + 1, Integer.MAX_VALUE,
+        256, 65536, 1 << 24, 1 << 25, 1 << 28, 1 << 29, 1 << 30,
+    };
+    static final int[] NO_PAGES = withFar(-1, 8);
+    static final int[] NO_ADDRESSES = withFar(-1, -15, -16, 128);
 
+    private static String sentence = "";
+    private static int tests = 0;
     private static int made = 0;
     private static int wrong = 0;
 
@@ -16,34 +28,55 @@ final class Checks {
         Object answer();
     }
 
+    interface CallWith {
+        Object answer(FrameSharer x, int number);
+    }
+
     private Checks() {
+    }
+
+    /** One test of one sentence of the document; an exception that it did not await is a wrong answer. */
+    static void test(String words, Runnable body) {
+        sentence = words;
+        tests++;
+        int before = made;
+        String ended = outcome(() -> {
+            body.run();
+            return "ended";
+        });
+        boolean looked = made > before;
+        due("the test itself", ended, "ended");
+        due("the test looked at something", looked, true);
     }
 
     static void due(String what, Object got, Object want) {
         made++;
         if (!want.equals(got)) {
             wrong++;
-            System.out.println(what + " answered " + got + ", due is " + want);
+            System.out.println("'" + sentence + "': " + what + " answered " + got + ", due is " + want);
         }
     }
 
     /** Exactly this exception, not one of a class below it: the machine's own are below. */
-    static void dueThrow(String what, Class<? extends RuntimeException> want, Call call) {
-        due(what, outcome(call), "throws." + want.getSimpleName());
+    static void dueThrow(String what, String want, Call call) {
+        due(what, outcome(call), want);
     }
 
-    /** The call throws, and all that can be seen is as it was before. */
-    static void dueThrowUnchanged(
-            String what, FrameSharer x, Class<? extends RuntimeException> want, Call call) {
-        String before = seen(x);
-        dueThrow(what, want, call);
-        due(what + " leaves behind", seen(x), before);
+    /** The call answers this, and a keeper that was asked it can't be told from one that was not. */
+    static void refused(
+            String what, Supplier<FrameSharer> made, Object want, Function<FrameSharer, Object> call) {
+        FrameSharer x = made.get();
+        due(what, outcome(() -> call.apply(x)), String.valueOf(want));
+        List<String> before = Look.at(made);
+        List<String> after = Look.at(Keepers.after(made, y -> outcome(() -> call.apply(y))));
+        due(what + " leaves behind", Look.difference(after, before), "what was before");
     }
 
-    static void dueUnchanged(String what, FrameSharer x, Object want, Call call) {
-        String before = seen(x);
-        due(what, call.answer(), want);
-        due(what + " leaves behind", seen(x), before);
+    static void refusedEach(
+            String what, int[] numbers, Supplier<FrameSharer> made, Object want, CallWith call) {
+        for (int number : numbers) {
+            refused(what + " " + number, made, want, x -> call.answer(x, number));
+        }
     }
 
     static String outcome(Call call) {
@@ -54,44 +87,15 @@ final class Checks {
         }
     }
 
-    /** Counts, spaces, holders, one cell a page and what differs from each picture: some 115 calls. */
-    static String seen(FrameSharer x) {
-        StringBuilder all = new StringBuilder();
-        for (int what = 0; what < 5; what++) {
-            all.append(x.count(what)).append(' ');
-        }
-        for (int space = 0; space < 6; space++) {
-            if (x.isThere(space)) {
-                all.append("| ").append(space).append(": ").append(pagesSeen(x, space));
-            }
-        }
-        for (int picture = 0; picture < 8; picture++) {
-            int p = picture;
-            all.append("| ").append(outcome(() -> x.changed(p)));
-        }
-        return all.toString();
+    static int[] withFar(int... near) {
+        int[] all = new int[near.length + FAR.length];
+        System.arraycopy(near, 0, all, 0, near.length);
+        System.arraycopy(FAR, 0, all, near.length, FAR.length);
+        return all;
     }
 
-    private static String pagesSeen(FrameSharer x, int space) {
-        StringBuilder pages = new StringBuilder();
-        for (int page = 0; page < 8; page++) {
-            int holders = x.holders(space, page);
-            pages.append(holders).append(holders > 0 ? "=" + x.read(space, page * 16) : "").append(' ');
-        }
-        return pages.toString();
-    }
-
-    /** A keeper whose first spaces are open already. */
-    static FrameSharer keeper(int frames, int spaces) {
-        FrameSharer x = new FrameSharer(frames);
-        for (int space = 0; space < spaces; space++) {
-            x.open();
-        }
-        return x;
-    }
-
-    static void end(String test) {
-        System.out.println(test + ": " + made + " checks, " + wrong + " wrong");
+    static void end(String name) {
+        System.out.println(name + ": " + tests + " tests, " + made + " checks, " + wrong + " wrong");
         if (wrong != 0 || made == 0) {
             System.exit(1);
         }

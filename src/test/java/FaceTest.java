@@ -30,10 +30,12 @@ public final class FaceTest {
 
     public static void main(String[] args) {
         Class<?> face = FrameSharer.class;
-        Checks.due("modifiers", Modifier.toString(face.getModifiers()), "public final");
-        constructors(face);
-        methods(face);
-        fields(face);
+        Checks.test("public final class FrameSharer", () -> {
+            Checks.due("modifiers", Modifier.toString(face.getModifiers()), "public final");
+        });
+        Checks.test("public FrameSharer(int frames)", () -> constructors(face));
+        Checks.test("the public methods", () -> methods(face));
+        Checks.test("no other public member", () -> fields(face));
         Checks.end("FaceTest");
     }
 

@@ -15,6 +15,8 @@ public final class ModelTest {
         {4, 4, 4, 10, 3, 4, 12, 4, 6, 8, 6, 3, 6, 8, 6, 1},
     };
 
+    private static final int[] WRONG = Checks.withFar(-1, 6, 8, 128);
+
     private final Random random;
     private final int[] weights;
     private final FrameSharer real;
@@ -31,10 +33,14 @@ public final class ModelTest {
     }
 
     public static void main(String[] args) {
+        Checks.test("An object is used for at most 512 calls", ModelTest::playAll);
+        Checks.end("ModelTest");
+    }
+
+    private static void playAll() {
         for (int run = 0; run < RUNS; run++) {
             new ModelTest(run).play(run);
         }
-        Checks.end("ModelTest");
     }
 
     private void play(int run) {
@@ -68,7 +74,7 @@ public final class ModelTest {
 
     private int argument(int kind, int place) {
         if (random.nextInt(60) == 0) {
-            return Checks.FAR[random.nextInt(Checks.FAR.length)];
+            return WRONG[random.nextInt(WRONG.length)];
         }
         String name = NAMES[kind];
         if (name.equals("back") || name.equals("drop") || name.equals("changed")) {
