@@ -69,12 +69,12 @@ final class Keepers {
         return x;
     }
 
-    /** A busy keeper in which all spaces and all pictures are there. */
+    /** A busy keeper in which all spaces and all pictures are there; space 2 has no page. */
     static FrameSharer crowded(int frames) {
         FrameSharer x = busy(frames);
         x.open();
         x.fork(3);
-        x.open();
+        x.fork(0);
         for (int more = 0; more < 6; more++) {
             x.take();
         }

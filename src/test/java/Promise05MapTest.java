@@ -75,26 +75,18 @@ public final class Promise05MapTest {
     }
 
     private static void missingSpace() {
-        Checks.refusedEach(
-                "map in space", Keepers.MISSING_SPACES, Keepers.BUSY, Checks.MISSING,
-                (x, space) -> x.map(space, 1, 8));
+        Alike.missingSpace("map", Keepers.BUSY, (x, space, page) -> x.map(space, page, 8));
     }
 
     private static void noPage() {
-        Checks.refusedEach(
-                "map of page", Checks.NO_PAGES, Keepers.BUSY, Checks.OUTSIDE, (x, page) -> x.map(0, page, 8));
+        Alike.noPage("map", Keepers.BUSY, (x, space, page) -> x.map(space, page, 8));
         FrameSharer x = Keepers.opened(2, 1);
         Checks.due("map of page 0", x.map(0, 0, 8), true);
         Checks.due("map of page 7", x.map(0, 7, 8), true);
     }
 
     private static void spaceBeforePage() {
-        Checks.refusedEach(
-                "map in space 2, page", Checks.NO_PAGES, Keepers.BUSY, Checks.MISSING,
-                (x, page) -> x.map(2, page, 8));
-        Checks.refusedEach(
-                "map of page 8 in space", Keepers.MISSING_SPACES, Keepers.BUSY, Checks.MISSING,
-                (x, space) -> x.map(space, 8, 8));
+        Alike.spaceBeforePage("map", Keepers.BUSY, (x, space, page) -> x.map(space, page, 8));
     }
 
     private static void noFrameFree() {
@@ -120,12 +112,8 @@ public final class Promise05MapTest {
     }
 
     private static void spaceAndPageBeforeFrame() {
-        Checks.refusedEach(
-                "map in space", Keepers.MISSING_SPACES, Keepers.NO_FRAME_LEFT, Checks.MISSING,
-                (x, space) -> x.map(space, 1, 8));
-        Checks.refusedEach(
-                "map of page", Checks.NO_PAGES, Keepers.NO_FRAME_LEFT, Checks.OUTSIDE,
-                (x, page) -> x.map(0, page, 8));
-        Checks.refused("map of both", Keepers.NO_FRAME_LEFT, Checks.MISSING, x -> x.map(6, 8, 8));
+        Alike.missingSpace("map", Keepers.NO_FRAME_LEFT, (x, space, page) -> x.map(space, page, 8));
+        Alike.noPage("map", Keepers.NO_FRAME_LEFT, (x, space, page) -> x.map(space, page, 8));
+        Alike.spaceBeforePage("map", Keepers.NO_FRAME_LEFT, (x, space, page) -> x.map(space, page, 8));
     }
 }

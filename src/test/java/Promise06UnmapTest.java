@@ -51,25 +51,17 @@ public final class Promise06UnmapTest {
     }
 
     private static void missingSpace() {
-        Checks.refusedEach(
-                "unmap in space", Keepers.MISSING_SPACES, Keepers.BUSY, Checks.MISSING,
-                (x, space) -> x.unmap(space, 0));
+        Alike.missingSpace("unmap", Keepers.BUSY, FrameSharer::unmap);
     }
 
     private static void noPage() {
-        Checks.refusedEach(
-                "unmap of page", Checks.NO_PAGES, Keepers.BUSY, Checks.OUTSIDE, (x, page) -> x.unmap(0, page));
+        Alike.noPage("unmap", Keepers.BUSY, FrameSharer::unmap);
         FrameSharer x = Keepers.BUSY.get();
         Checks.due("unmap of page 0", x.unmap(0, 0), true);
         Checks.due("unmap of page 7", x.unmap(0, 7), true);
     }
 
     private static void spaceBeforePage() {
-        Checks.refusedEach(
-                "unmap in space 2, page", Checks.NO_PAGES, Keepers.BUSY, Checks.MISSING,
-                (x, page) -> x.unmap(2, page));
-        Checks.refusedEach(
-                "unmap of page 8 in space", Keepers.MISSING_SPACES, Keepers.BUSY, Checks.MISSING,
-                (x, space) -> x.unmap(space, 8));
+        Alike.spaceBeforePage("unmap", Keepers.BUSY, FrameSharer::unmap);
     }
 }

@@ -26,8 +26,7 @@ public final class Promise07ReadTest {
     }
 
     private static void noAddress() {
-        Checks.refusedEach(
-                "read at", Checks.NO_ADDRESSES, Keepers.BUSY, Checks.OUTSIDE, (x, at) -> x.read(0, at));
+        Alike.noAddress("read", Keepers.BUSY, FrameSharer::read);
         FrameSharer x = Keepers.BUSY.get();
         Checks.due("read at 0", x.read(0, 0), 1);
         Checks.due("read at 127", x.read(0, 127), 3);
@@ -35,34 +34,19 @@ public final class Promise07ReadTest {
     }
 
     private static void missingSpace() {
-        Checks.refusedEach(
-                "read in space", Keepers.MISSING_SPACES, Keepers.BUSY, Checks.MISSING,
-                (x, space) -> x.read(space, 0));
-        Checks.refusedEach(
-                "read of the last cell in space", new int[] {-1, 2, 4, 5, 6}, Keepers.BUSY, Checks.MISSING,
-                (x, space) -> x.read(space, 127));
+        Alike.missingSpace("read", Keepers.BUSY, FrameSharer::read);
+        Alike.missingSpace("read near 127", Keepers.BUSY, (x, space, at) -> x.read(space, 127 - at));
     }
 
     private static void absentPage() {
-        Checks.refusedEach(
-                "read at", new int[] {16, 47, 64, 111}, Keepers.BUSY, Checks.MISSING, (x, at) -> x.read(0, at));
+        Alike.absentPage("read", Keepers.BUSY, FrameSharer::read);
         FrameSharer x = Keepers.BUSY.get();
         Checks.due("read below the absent pages", x.read(0, 15), 1);
         Checks.due("read between the absent pages", x.read(0, 48) + x.read(0, 63), 2);
         Checks.due("read above the absent pages", x.read(0, 112), 2);
-        Checks.refused(
-                "read of an empty space", Keepers.CROWDED, Checks.MISSING, y -> y.read(2, 0));
     }
 
     private static void addressFirst() {
-        Checks.refusedEach(
-                "read in space 2 at", Checks.NO_ADDRESSES, Keepers.BUSY, Checks.OUTSIDE,
-                (x, at) -> x.read(2, at));
-        Checks.refusedEach(
-                "read at 128 in space", Keepers.MISSING_SPACES, Keepers.BUSY, Checks.OUTSIDE,
-                (x, space) -> x.read(space, 128));
-        Checks.refusedEach(
-                "read of an empty space at", Checks.NO_ADDRESSES, () -> Keepers.opened(1, 1), Checks.OUTSIDE,
-                (x, at) -> x.read(0, at));
+        Alike.addressFirst("read", Keepers.BUSY, FrameSharer::read);
     }
 }

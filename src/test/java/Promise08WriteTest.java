@@ -1,5 +1,7 @@
 /** Promise 8: write. */
 public final class Promise08WriteTest {
+    private static final Alike.InSpace WRITE = (x, space, address) -> x.write(space, address, 9);
+
     public static void main(String[] args) {
         Checks.test("The cell at an address becomes v", Promise08WriteTest::becomesV);
         Checks.test("what it was", Promise08WriteTest::whatItWas);
@@ -94,35 +96,26 @@ public final class Promise08WriteTest {
     }
 
     private static void noAddress() {
-        Checks.refusedEach(
-                "write at", Checks.NO_ADDRESSES, Keepers.BUSY, Checks.OUTSIDE, (x, at) -> x.write(0, at, 9));
+        Alike.noAddress("write", Keepers.BUSY, WRITE);
         FrameSharer x = Keepers.BUSY.get();
         Checks.due("write at 0", x.write(0, 0, 9), 1);
         Checks.due("write at 127", x.write(0, 127, 9), 3);
     }
 
     private static void missingSpace() {
-        Checks.refusedEach(
-                "write in space", Keepers.MISSING_SPACES, Keepers.BUSY, Checks.MISSING,
-                (x, space) -> x.write(space, 0, 9));
+        Alike.missingSpace("write", Keepers.BUSY, WRITE);
+        Alike.missingSpace("write near 127", Keepers.BUSY, (x, space, at) -> x.write(space, 127 - at, 9));
     }
 
     private static void absentPage() {
-        Checks.refusedEach(
-                "write at", new int[] {16, 47, 64, 111}, Keepers.BUSY, Checks.MISSING,
-                (x, at) -> x.write(0, at, 9));
+        Alike.absentPage("write", Keepers.BUSY, WRITE);
         FrameSharer x = Keepers.BUSY.get();
         Checks.due("write below the absent pages", x.write(0, 15, 9), 1);
         Checks.due("write above the absent pages", x.write(0, 112, 9), 2);
     }
 
     private static void addressFirst() {
-        Checks.refusedEach(
-                "write in space 2 at", Checks.NO_ADDRESSES, Keepers.BUSY, Checks.OUTSIDE,
-                (x, at) -> x.write(2, at, 9));
-        Checks.refusedEach(
-                "write at 128 in space", Keepers.MISSING_SPACES, Keepers.BUSY, Checks.OUTSIDE,
-                (x, space) -> x.write(space, 128, 9));
+        Alike.addressFirst("write", Keepers.BUSY, WRITE);
     }
 
     private static void noFrameFree() {
@@ -168,12 +161,8 @@ public final class Promise08WriteTest {
     }
 
     private static void frameLast() {
-        Checks.refusedEach(
-                "write at", Checks.NO_ADDRESSES, Keepers.NO_FRAME_LEFT, Checks.OUTSIDE,
-                (x, at) -> x.write(0, at, 9));
-        Checks.refusedEach(
-                "write in space", Keepers.MISSING_SPACES, Keepers.NO_FRAME_LEFT, Checks.MISSING,
-                (x, space) -> x.write(space, 0, 9));
-        Checks.refused("write in an absent page", Keepers.NO_FRAME_LEFT, Checks.MISSING, x -> x.write(0, 16, 9));
+        Alike.noAddress("write", Keepers.NO_FRAME_LEFT, WRITE);
+        Alike.missingSpace("write", Keepers.NO_FRAME_LEFT, WRITE);
+        Alike.absentPage("write", Keepers.NO_FRAME_LEFT, WRITE);
     }
 }

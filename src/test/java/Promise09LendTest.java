@@ -116,14 +116,14 @@ public final class Promise09LendTest {
     }
 
     private static void missingSpaces() {
-        TwoPages.missingSpaces("lend", FrameSharer::lend);
+        Alike.missingSpaces("lend", FrameSharer::lend);
     }
 
     private static void noPages() {
-        TwoPages.noPages("lend", FrameSharer::lend);
+        Alike.noPages("lend", FrameSharer::lend);
     }
 
     private static void spacesBeforePages() {
-        TwoPages.spacesBeforePages("lend", FrameSharer::lend);
+        Alike.spacesBeforePages("lend", FrameSharer::lend);
     }
 }

@@ -159,14 +159,14 @@ public final class Promise10JoinTest {
     }
 
     private static void missingSpaces() {
-        TwoPages.missingSpaces("join", FrameSharer::join);
+        Alike.missingSpaces("join", FrameSharer::join);
     }
 
     private static void noPages() {
-        TwoPages.noPages("join", FrameSharer::join);
+        Alike.noPages("join", FrameSharer::join);
     }
 
     private static void spacesBeforePages() {
-        TwoPages.spacesBeforePages("join", FrameSharer::join);
+        Alike.spacesBeforePages("join", FrameSharer::join);
     }
 }

@@ -161,14 +161,7 @@ public final class Promise12BackTest {
     }
 
     private static void missingPicture() {
-        Checks.refusedEach(
-                "back to", Keepers.MISSING_PICTURES, Keepers.BUSY, Checks.MISSING, FrameSharer::back);
-        Checks.refusedEach(
-                "back in a new one to", new int[] {-1, 0, 7, 8}, () -> new FrameSharer(2), Checks.MISSING,
-                FrameSharer::back);
-        Checks.refusedEach(
-                "back in a crowded one to", Keepers.NO_PICTURES, Keepers.CROWDED, Checks.MISSING,
-                FrameSharer::back);
+        Alike.missingPicture("back", FrameSharer::back);
         FrameSharer x = Keepers.CROWDED.get();
         Checks.due("back to the first", x.back(0), 3);
         Checks.due("back to the last", x.back(7), 6);

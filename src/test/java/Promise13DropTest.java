@@ -98,14 +98,7 @@ public final class Promise13DropTest {
     }
 
     private static void missingPicture() {
-        Checks.refusedEach(
-                "drop of", Keepers.MISSING_PICTURES, Keepers.BUSY, Checks.MISSING, FrameSharer::drop);
-        Checks.refusedEach(
-                "drop in a new one of", new int[] {-1, 0, 7, 8}, () -> new FrameSharer(2), Checks.MISSING,
-                FrameSharer::drop);
-        Checks.refusedEach(
-                "drop in a crowded one of", Keepers.NO_PICTURES, Keepers.CROWDED, Checks.MISSING,
-                FrameSharer::drop);
+        Alike.missingPicture("drop", FrameSharer::drop);
         FrameSharer x = Keepers.CROWDED.get();
         Checks.due("drop of the last", x.drop(7), 0);
         Checks.due("drop of the first: a page of a closed space", x.drop(0), 1);

@@ -64,26 +64,17 @@ public final class Promise14HoldersTest {
     }
 
     private static void missingSpace() {
-        Checks.refusedEach(
-                "holders in space", Keepers.MISSING_SPACES, Keepers.BUSY, Checks.MISSING,
-                (x, space) -> x.holders(space, 0));
+        Alike.missingSpace("holders", Keepers.BUSY, FrameSharer::holders);
     }
 
     private static void noPage() {
-        Checks.refusedEach(
-                "holders of page", Checks.NO_PAGES, Keepers.BUSY, Checks.OUTSIDE,
-                (x, page) -> x.holders(0, page));
+        Alike.noPage("holders", Keepers.BUSY, FrameSharer::holders);
         FrameSharer x = Keepers.BUSY.get();
         Checks.due("holders of page 0", x.holders(0, 0), 8);
         Checks.due("holders of page 7", x.holders(0, 7), 4);
     }
 
     private static void spaceBeforePage() {
-        Checks.refusedEach(
-                "holders in space 2, page", Checks.NO_PAGES, Keepers.BUSY, Checks.MISSING,
-                (x, page) -> x.holders(2, page));
-        Checks.refusedEach(
-                "holders of page 8 in space", Keepers.MISSING_SPACES, Keepers.BUSY, Checks.MISSING,
-                (x, space) -> x.holders(space, 8));
+        Alike.spaceBeforePage("holders", Keepers.BUSY, FrameSharer::holders);
     }
 }

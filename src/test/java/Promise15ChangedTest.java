@@ -150,14 +150,7 @@ public final class Promise15ChangedTest {
     }
 
     private static void missingPicture() {
-        Checks.refusedEach(
-                "changed since", Keepers.MISSING_PICTURES, Keepers.BUSY, Checks.MISSING, FrameSharer::changed);
-        Checks.refusedEach(
-                "changed in a new one since", new int[] {-1, 0, 7, 8}, () -> new FrameSharer(2),
-                Checks.MISSING, FrameSharer::changed);
-        Checks.refusedEach(
-                "changed in a crowded one since", Keepers.NO_PICTURES, Keepers.CROWDED, Checks.MISSING,
-                FrameSharer::changed);
+        Alike.missingPicture("changed", FrameSharer::changed);
         FrameSharer x = Keepers.CROWDED.get();
         Checks.due("changed since the last", x.changed(7), 0);
     }
